@@ -36,7 +36,8 @@ public final class MooringTree {
 
     // ---- the world
 
-    public int addShip(int comes, int draught, int cargo) {
+    public int addShip(int comes, int draught, int cargo)
+            throws IllegalArgumentException, IllegalStateException {
         if (!isTurn(comes)) {
             throw new IllegalArgumentException("comes is out of range");
         }
@@ -52,7 +53,7 @@ public final class MooringTree {
         return harbour.admit(new Ship(comes, draught, cargo));
     }
 
-    public int setRate(int berth, int rate) {
+    public int setRate(int berth, int rate) throws IndexOutOfBoundsException, IllegalArgumentException {
         checkBerth(berth);
         if (rate < 0 || rate > HIGHEST_RATE) {
             throw new IllegalArgumentException("rate is out of range");
@@ -62,7 +63,7 @@ public final class MooringTree {
         return before;
     }
 
-    public void setRules(int price, int fee) {
+    public void setRules(int price, int fee) throws IllegalArgumentException {
         if (price < 0 || price > MOST_MONEY) {
             throw new IllegalArgumentException("price is out of range");
         }
@@ -75,7 +76,7 @@ public final class MooringTree {
 
     // ---- lines and orders
 
-    public int fork(int line, int turn) {
+    public int fork(int line, int turn) throws IndexOutOfBoundsException, IllegalStateException {
         Line madeOf = lineNumbered(line);
         checkTurn(turn);
         if (forks >= MOST_FORKS) {
@@ -86,7 +87,8 @@ public final class MooringTree {
         return forks;
     }
 
-    public boolean order(int line, int turn, int kind, int ship, int berth) {
+    public boolean order(int line, int turn, int kind, int ship, int berth)
+            throws IndexOutOfBoundsException, IllegalArgumentException, IllegalStateException {
         Line ordered = lineNumbered(line);
         checkTurn(turn);
         shipNumbered(ship);
@@ -100,19 +102,19 @@ public final class MooringTree {
         return ordered.give(turn, codeOf(kind, ship, berth));
     }
 
-    public boolean takeAway(int line, int turn) {
+    public boolean takeAway(int line, int turn) throws IndexOutOfBoundsException {
         Line ordered = lineNumbered(line);
         checkTurn(turn);
         return ordered.drop(turn);
     }
 
-    public int orderOf(int line, int turn) {
+    public int orderOf(int line, int turn) throws IndexOutOfBoundsException {
         Line asked = lineNumbered(line);
         checkTurn(turn);
         return asked.orderFor(turn);
     }
 
-    public int differences(int one, int other) {
+    public int differences(int one, int other) throws IndexOutOfBoundsException {
         Line first = lineNumbered(one);
         Line second = lineNumbered(other);
         int turns = 0;
@@ -126,23 +128,15 @@ public final class MooringTree {
 
     // ---- playing
 
-    public int where(int line, int ship, int turn) {
-        Line played = lineNumbered(line);
-        Ship asked = shipNumbered(ship);
-        checkTurn(turn);
-        harbour.play(played, turn);
-        return asked.place;
+    public int where(int line, int ship, int turn) throws IndexOutOfBoundsException {
+        return shipBehind(line, ship, turn).place;
     }
 
-    public int cargo(int line, int ship, int turn) {
-        Line played = lineNumbered(line);
-        Ship asked = shipNumbered(ship);
-        checkTurn(turn);
-        harbour.play(played, turn);
-        return asked.left;
+    public int cargo(int line, int ship, int turn) throws IndexOutOfBoundsException {
+        return shipBehind(line, ship, turn).left;
     }
 
-    public int failures(int line) {
+    public int failures(int line) throws IndexOutOfBoundsException {
         Line played = lineNumbered(line);
         harbour.play(played, LAST_TURN);
         return harbour.failedTurns;
@@ -150,22 +144,22 @@ public final class MooringTree {
 
     // ---- looks and marks
 
-    public int look(int line, int turn) {
+    public int look(int line, int turn) throws IndexOutOfBoundsException {
         Line looked = lineNumbered(line);
         checkTurn(turn);
         looked.seen = Math.max(looked.seen, turn);
         return earningOf(looked, turn);
     }
 
-    public int seen(int line) {
+    public int seen(int line) throws IndexOutOfBoundsException {
         return lineNumbered(line).seen;
     }
 
-    public int ahead(int line) {
+    public int ahead(int line) throws IndexOutOfBoundsException {
         return lineNumbered(line).aheadTurns;
     }
 
-    public int mark(int line) {
+    public int mark(int line) throws IndexOutOfBoundsException {
         Line marked = lineNumbered(line);
         return markAgainst(marked, earningOf(teachers, LAST_TURN));
     }
@@ -186,6 +180,14 @@ public final class MooringTree {
     }
 
     // ---- what the calls share
+
+    private Ship shipBehind(int line, int ship, int turn) {
+        Line played = lineNumbered(line);
+        Ship asked = shipNumbered(ship);
+        checkTurn(turn);
+        harbour.play(played, turn);
+        return asked;
+    }
 
     private int earningOf(Line line, int turn) {
         harbour.play(line, turn);

@@ -11,21 +11,22 @@ final class FaceTest {
     private static final Set<String> FACE = Set.of(
             "BERTH", "LEAVE",
             "MooringTree()",
-            "int addShip(int,int,int)",
-            "int setRate(int,int)",
-            "void setRules(int,int)",
-            "int fork(int,int)",
-            "boolean order(int,int,int,int,int)",
-            "boolean takeAway(int,int)",
-            "int orderOf(int,int)",
-            "int differences(int,int)",
-            "int where(int,int,int)",
-            "int cargo(int,int,int)",
-            "int failures(int)",
-            "int look(int,int)",
-            "int seen(int)",
-            "int ahead(int)",
-            "int mark(int)",
+            "int addShip(int,int,int) throws IllegalArgumentException,IllegalStateException",
+            "int setRate(int,int) throws IndexOutOfBoundsException,IllegalArgumentException",
+            "void setRules(int,int) throws IllegalArgumentException",
+            "int fork(int,int) throws IndexOutOfBoundsException,IllegalStateException",
+            "boolean order(int,int,int,int,int) throws "
+                    + "IndexOutOfBoundsException,IllegalArgumentException,IllegalStateException",
+            "boolean takeAway(int,int) throws IndexOutOfBoundsException",
+            "int orderOf(int,int) throws IndexOutOfBoundsException",
+            "int differences(int,int) throws IndexOutOfBoundsException",
+            "int where(int,int,int) throws IndexOutOfBoundsException",
+            "int cargo(int,int,int) throws IndexOutOfBoundsException",
+            "int failures(int) throws IndexOutOfBoundsException",
+            "int look(int,int) throws IndexOutOfBoundsException",
+            "int seen(int) throws IndexOutOfBoundsException",
+            "int ahead(int) throws IndexOutOfBoundsException",
+            "int mark(int) throws IndexOutOfBoundsException",
             "int best()");
 
     public static void main(String[] args) {
@@ -51,10 +52,19 @@ final class FaceTest {
         }
         for (Method method : MooringTree.class.getDeclaredMethods()) {
             if (isShown(method)) {
-                shown.add(method.getReturnType() + " " + method.getName() + list(method.getParameterTypes()));
+                shown.add(method.getReturnType() + " " + method.getName() + list(method.getParameterTypes())
+                        + thrown(method.getExceptionTypes()));
             }
         }
         return shown;
+    }
+
+    private static String thrown(Class<?>[] types) {
+        StringBuilder thrown = new StringBuilder();
+        for (Class<?> type : types) {
+            thrown.append(thrown.length() > 0 ? "," : " throws ").append(type.getSimpleName());
+        }
+        return thrown.toString();
     }
 
     private static boolean isShown(Member member) {

@@ -114,6 +114,10 @@ final class PlayingTest {
         Check.due("not come, waits, has cargo, left", 1 | 1 << 1 | 1 << 3 | 1 << 5, x.failures(0));
         Check.due("unloaded behind 3", 0, x.cargo(0, 0, 3));
         Check.due("left in 4", -3, x.where(0, 0, 4));
+        x.setRate(0, 7);
+        Check.due("a last unit of cargo keeps it", 1, x.cargo(0, 0, 2));
+        Check.due("it leaves in 4 again", -3, x.where(0, 0, 4));
+        Check.due("failures as before", 1 | 1 << 1 | 1 << 3 | 1 << 5, x.failures(0));
     }
 
     private static void failedOrderChangesNothing() {
