@@ -30,12 +30,20 @@ final class FaceTest {
             "int best()");
 
     public static void main(String[] args) {
+        Check.says("BERTH = 1, LEAVE = 2", FaceTest::constants);
+        Check.says("public final class MooringTree", FaceTest::publicAndFinal);
+        Check.says("The public face", () -> Check.due("the face", new TreeSet<>(FACE), shown()));
+        Check.end();
+    }
+
+    private static void constants() {
         Check.due("BERTH", 1, MooringTree.BERTH);
         Check.due("LEAVE", 2, MooringTree.LEAVE);
+    }
+
+    private static void publicAndFinal() {
         Check.due("public", true, Modifier.isPublic(MooringTree.class.getModifiers()));
         Check.due("final", true, Modifier.isFinal(MooringTree.class.getModifiers()));
-        Check.due("the face", new TreeSet<>(FACE), shown());
-        Check.end();
     }
 
     private static Set<String> shown() {
