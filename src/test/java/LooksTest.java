@@ -43,6 +43,7 @@ final class LooksTest {
         Check.says("but 0 at least and 100 at most", LooksTest::markEdges);
         Check.says("and 0 if one of its own orders looks ahead.", LooksTest::markOfAnOrderAhead);
         Check.says("if one of its own orders looks ahead", LooksTest::markOfAnOrderAheadBelow);
+        Check.says("it has orders of its own for that turn and later ones", LooksTest::ordersBelowAreNoneOfItsOwn);
         Check.says("The line 0 has the mark 50.", LooksTest::teachersMark);
     }
 
@@ -396,6 +397,30 @@ final class LooksTest {
         Check.due("the line itself", 0, x.mark(1));
         x.order(2, 0, 0, 0, 0);
         Check.due("an own one now", 0, x.mark(2));
+    }
+
+    /** The fork 1 orders ahead both before and behind the turn at which forks are made of it, and they gain by it. */
+    private static void ordersBelowAreNoneOfItsOwn() {
+        int inTwoTurns = 50 + 2 * 4 * 3 + 2;
+        for (int forked : Check.TURNS) {
+            MooringTree x = withForks(1);
+            x.look(1, 29);
+            x.order(1, 28, BERTH, 0, 0);
+            x.fork(1, forked);
+            x.fork(2, 29 - forked);
+            String call = "forked at " + forked;
+            Check.due(call + ": the line below", 0, x.mark(1));
+            Check.due(call + ": a fork of it", inTwoTurns, x.mark(2));
+            Check.due(call + ": a fork of that", inTwoTurns, x.mark(3));
+            Check.due(call + ": the lowest one that has the best mark", 2, x.best());
+            x.order(1, 0, BERTH, 0, 0);
+            Check.due(call + ": another one below, given later", 100, x.mark(2));
+            Check.due(call + ": none of its own", 0, x.ahead(2));
+            Check.due(call + ": none of that of the fork's fork", 0, x.ahead(3));
+            Check.due(call + ": an own one in its turn", forked < 29, x.order(2, forked, 0, 0, 0));
+            Check.due(call + ": that one counts", forked < 29 ? 0 : 100, x.mark(2));
+            Check.due(call + ": not for the fork's fork", forked == 0 ? inTwoTurns : 100, x.mark(3));
+        }
     }
 
     private static void teachersMark() {

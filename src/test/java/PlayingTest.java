@@ -376,6 +376,12 @@ final class PlayingTest {
         Check.due("all of it while it waits", 100, y.cargo(0, 0, 29));
         y.order(0, 29, BERTH, 0, 0);
         Check.due("unloaded in the last turn", 96, y.cargo(0, 0, 29));
+        y.fork(0, 0);
+        for (int turn : Check.upTo(0, 28)) {
+            y.order(1, turn, turn % 2 + 1, 0, 0);
+            Check.due("none is unloaded before it comes: " + turn, 100, y.cargo(1, 0, turn));
+            Check.due("nothing is earned for it", 0, y.look(1, turn));
+        }
     }
 
     private static void cargoOfNoSuch() {
